@@ -232,7 +232,7 @@ public final class Commutator {
         if (width < leastWidth || width > MOST_WIDTH) {
             return false;
         }
-        return period == 1 || !twice && (period == 2 || period == 4);
+        return period == 1 || (!twice && (period == 2 || period == 4));
     }
 
     private static boolean isDerived(int derived) {
@@ -240,7 +240,7 @@ public final class Commutator {
     }
 
     private static boolean isOperand(int operand) {
-        return operand >= 0 && operand < MOST_POINTS || isDerived(operand - FIRST_DERIVED_OPERAND);
+        return (operand >= 0 && operand < MOST_POINTS) || isDerived(operand - FIRST_DERIVED_OPERAND);
     }
 
     private Point existingPoint(int point) {
@@ -430,7 +430,7 @@ public final class Commutator {
 
         private static long bitsAt(int offset, int width, boolean twice) {
             long once = ((1L << width) - 1) << offset;
-            return twice ? once | once << Point.HALF_BITS : once;
+            return twice ? once | (once << Point.HALF_BITS) : once;
         }
 
         private boolean isFree(long bits, int period, int phase) {
@@ -521,9 +521,9 @@ public final class Commutator {
 
         void sendWord(PointTable table, Line line) {
             int word = wordsSent % FRAME_WORDS;
-            int counter = wordsSent / FRAME_WORDS & BYTE_MASK;
+            int counter = (wordsSent / FRAME_WORDS) & BYTE_MASK;
             if (word == 0) {
-                frame = (long) (SYNC_WORD << WORD_BITS | counter) << COUNTER_SHIFT;
+                frame = (long) ((SYNC_WORD << WORD_BITS) | counter) << COUNTER_SHIFT;
             }
             packSamples(table, counter, word);
             for (int i = 1; i <= WORD_BITS; i++) {
@@ -565,11 +565,11 @@ public final class Commutator {
 
         /** Returns whether a frame is complete with this bit that is to be decoded. */
         boolean take(int newBit) {
-            latest = latest << 1 | newBit;
+            latest = (latest << 1) | newBit;
             takenBits++;
             if (isSyncWord()) {
                 // the sync word begins 8 bits back: as its highest bit is 1, all 8 were taken
-                syncWords[takenBits - WORD_BITS & (FRAME_BITS - 1)]++;
+                syncWords[(takenBits - WORD_BITS) & (FRAME_BITS - 1)]++;
             }
             if (mode == SEARCH) {
                 search();
@@ -651,7 +651,7 @@ public final class Commutator {
             if (usedFrames == 0) {
                 latestNumber = counter;
             } else {
-                int step = counter - latestCounter & BYTE_MASK;
+                int step = (counter - latestCounter) & BYTE_MASK;
                 if (step == 0) {
                     repeatedFrames++;
                     return;
@@ -669,7 +669,7 @@ public final class Commutator {
             for (int i = 1; i <= gap; i++) {
                 for (int n = 0; n < table.count; n++) {
                     Point p = table.at(n);
-                    if (p != null && p.isSentIn(latestCounter + i & BYTE_MASK)) {
+                    if (p != null && p.isSentIn((latestCounter + i) & BYTE_MASK)) {
                         p.noteMissing();
                     }
                 }
@@ -744,14 +744,14 @@ public final class Commutator {
             for (int pass = 0; pass < rows.length; pass++) {
                 needed |= needsOf(needed);
             }
-            return (needed >> derived & 1) != 0;
+            return ((needed >> derived) & 1) != 0;
         }
 
         private int needsOf(int mask) {
             int needs = 0;
             for (int i = 0; i < rows.length; i++) {
                 Derived d = rows[i];
-                if (d != null && d.defined && (mask >> i & 1) != 0) {
+                if (d != null && d.defined && ((mask >> i) & 1) != 0) {
                     needs |= operandMask(d.first) | operandMask(d.second);
                 }
             }

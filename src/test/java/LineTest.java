@@ -14,6 +14,7 @@ public final class LineTest {
         bitsAreReadAndTurnedOver();
         bitsAreCutOut();
         cutAndSendAgain();
+        cutsOfAFullLine();
         wrongCuts();
         Check.end("LineTest");
     }
@@ -98,10 +99,11 @@ public final class LineTest {
 
     private static void code(int convention, int width, int value, String want) {
         Commutator x = new Commutator();
+        x.addPoint(3, 0, 1, false);
         x.addPoint(width, convention, 1, false);
-        x.put(0, value);
+        x.put(1, value);
         x.send(8);
-        Check.same("convention " + convention + " of " + value, Lines.frame(0, want), Lines.of(x));
+        Check.same("convention " + convention + " of " + value, Lines.frame(0, "000" + want), Lines.of(x));
     }
 
     private static void samplesLieAtTheirPlaces() {
@@ -120,10 +122,6 @@ public final class LineTest {
     }
 
     private static void phasesAreSentInTheirFrames() {
-        Commutator x = new Commutator();
-        for (int i = 0; i < 4; i++) {
-            x.addPoint(12, 0, 1, false);
-        }
         Commutator y = new Commutator();
         for (int i = 0; i < 3; i++) {
             y.addPoint(12, 0, 1, false);
@@ -234,6 +232,23 @@ public final class LineTest {
         Check.due("sent after many cuts", 1000, () -> x.sent());
         Check.due("onLine after many cuts", 1000, () -> x.onLine());
         Check.due("taken after many cuts", 125, () -> x.taken());
+    }
+
+    private static void cutsOfAFullLine() {
+        Commutator x = new Commutator();
+        Lines.send(x, 1000);
+        Check.due("cut(4000, 64)", 7936, () -> x.cut(4000, 64));
+        Check.due("cut(7900, 36)", 7900, () -> x.cut(7900, 36));
+        Check.due("cut(0, 64)", 7836, () -> x.cut(0, 64));
+        StringBuilder want = new StringBuilder();
+        for (int bit = 64; bit < 7964; bit++) {
+            if (bit < 4000 || bit >= 4064) {
+                want.append(Lines.frame(bit / 64, "").charAt(bit % 64));
+            }
+        }
+        Check.same("the bits that are left", want.toString(), Lines.of(x));
+        Check.noSuchIndex("cut(7836, 1)", x, () -> x.cut(7836, 1));
+        Check.due("cut(0, 7836)", 0, () -> x.cut(0, 7836));
     }
 
     private static void wrongCuts() {

@@ -100,6 +100,9 @@ public final class PointsTest {
         Check.badState("a thirteenth point", x, () -> x.addPoint(1, 0, 1, false));
         Check.badArgument("a thirteenth point of no width", x, () -> x.addPoint(0, 0, 1, false));
         Check.due("points then", 12, () -> x.points());
+        Check.due("place of the last of twelve", 11, () -> x.place(11));
+        Check.noSuchIndex("place(12) of twelve points", x, () -> x.place(12));
+        Check.noSuchIndex("put(12, 0) of twelve points", x, () -> x.put(12, 0));
     }
 
     private static void noPlace() {

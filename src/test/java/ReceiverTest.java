@@ -261,6 +261,15 @@ public final class ReceiverTest {
         told(x, "with one miss of a new lock", 2, 5, 3, 0);
         x.receive(64 * 6);
         told(x, "then", 2, 11, 3, 0);
+        Commutator y = counting(16);
+        for (int k : new int[] {4, 5, 9, 10}) {
+            y.flip(64 * k + 1);
+            y.flip(64 * k + 2);
+        }
+        y.receive(64 * 10 + 7);
+        told(y, "before the second miss of a new lock", 2, 5, 3, 0);
+        y.receive(1);
+        told(y, "with the second miss of a new lock", 0, 5, 3, 0);
     }
 
     private static void matchesStartAnewWithACheck() {
