@@ -24,7 +24,8 @@ final class EdgesOfDecoding {
     }
 
     private static void counters(Edges edges) {
-        String s = "If a frame was decoded before, with the counter j, let d be the remainder of k - j by 256, 0 to 255.";
+        String s = "If a frame was decoded before, with the counter j, let d be the remainder of k - j by 256,"
+            + " 0 to 255.";
         edges.add(17, s, "the least d, 0", """
             send(32) = 256
             write(200, 00000010)
@@ -122,8 +123,8 @@ final class EdgesOfDecoding {
     }
 
     private static void gaps(Edges edges) {
-        String s = "Otherwise d - 1 frames are lost: for each of their counters, each point that is sent in such a frame"
-            + " has one more missing sample, or two if it is sampled twice.";
+        String s = "Otherwise d - 1 frames are lost: for each of their counters, each point that is sent in such a"
+            + " frame has one more missing sample, or two if it is sampled twice.";
         edges.add(23, s, "no frame is lost", """
             addPoint(4, 0, 1, false) = 0
             addPoint(4, 0, 1, true) = 1

@@ -10,8 +10,8 @@ final class EdgesOfDerivedPoints {
         allowedChains(edges);
         operations(edges);
         limits(edges);
-        nothingThere(edges, "derivedValue", 25);
-        nothingThere(edges, "derivedTime", 26);
+        asked(edges);
+        nothingThere(edges);
         times(edges);
     }
 
@@ -255,17 +255,16 @@ final class EdgesOfDerivedPoints {
             derivedValue(0) = 1000000
             derivedValue(1) = 999999
             """);
-        edges.add(25, s, "a product that is just the least, and one above it", received(1000, -999, 1001) + """
-            derive(0, 1, 5, 5) = done
-            derive(1, 2, 1, 2) = done
-            derivedValue(1) = -999999
-            derive(2, 1, 101, 0) = done
-            derivedValue(2) = -1000000
-            """);
-        edges.add(25, s, "1000 times -1000", received(1000, -1000, -1001) + """
+        edges.add(25, s, "a product that is just the least", received(1000, -1000, 0) + """
             derive(0, 2, 0, 1) = done
             derivedValue(0) = -1000000
-            derive(0, 2, 2, 0) = done
+            """);
+        edges.add(25, s, "a product that is one above the least", received(999, -1001, 0) + """
+            derive(0, 2, 0, 1) = done
+            derivedValue(0) = -999999
+            """);
+        edges.add(25, s, "products that are beyond both limits", received(1000, -1000, -1001) + """
+            derive(0, 2, 0, 2) = done
             derivedValue(0) = -1000000
             derive(0, 2, 1, 2) = done
             derivedValue(0) = 1000000
@@ -314,50 +313,112 @@ final class EdgesOfDerivedPoints {
             """);
     }
 
-    private static void nothingThere(Edges edges, String call, int promise) {
-        boolean isValue = call.equals("derivedValue");
-        String asked = "\n" + call;
-        String none = " = throws.NoSuchElementException";
-        String what = isValue ? "value" : "time";
-        edges.add(promise, "Returns the " + what + " of a derived point.", "nothing is received anew",
-            received(5, 7, 0) + "derive(0, 0, 0, 1) = done" + asked + "(0) = " + (isValue ? 12 : 156)
-            + "\nput(0, 9) = 5\nsend(8) = 64" + asked + "(0) = " + (isValue ? 12 : 156)
-            + "\nreceive(64) = 1" + asked + "(0) = " + (isValue ? 16 : 220));
-        edges.add(promise, "`derived`: 0 to 7", "the least and the greatest", received(5, 7, 0)
-            + "derive(0, 0, 0, 1) = done\nderive(7, 0, 0, 0) = done"
-            + asked + "(0) = " + (isValue ? 12 : 156) + asked + "(7) = " + (isValue ? 10 : 144));
-        edges.add(promise, "Throws `IllegalArgumentException` if derived is out of range", "too small and too large",
-            received(5, 7, 0) + "derive(0, 0, 0, 1) = done"
-            + refused(call, "-1", "8", "100", "107", "MIN", "MAX") + asked + "(0) = " + (isValue ? 12 : 156));
-        edges.add(promise, "If several exceptions apply, the one that is documented first is thrown.",
-            "it is out of range and not set", refused(call, "-1", "8") + asked + "(0)" + none);
-        String s = "Throws `NoSuchElementException` if it is not set, or an operand has no value";
-        edges.add(promise, s, "it is not set", received(5, 7, 0) + "derive(0, 0, 0, 1) = done"
-            + asked + "(1)" + none + asked + "(7)" + none);
-        edges.add(promise, "Each has an operation and two operands, or is not set.", "it is set then", received(5, 7, 0)
-            + call + "(1)" + none + "\nderive(1, 0, 0, 1) = done" + asked + "(1) = " + (isValue ? 12 : 156));
-        edges.add(promise, s, "an operand is a point that does not exist", received(5, 7, 0)
-            + "derive(0, 0, 0, 3) = done\nderive(1, 0, 11, 0) = done" + asked + "(0)" + none + asked + "(1)" + none);
-        edges.add(promise, s, "an operand is a derived point that is not set", received(5, 7, 0)
-            + "derive(0, 0, 0, 101) = done\nderive(2, 0, 101, 0) = done" + asked + "(0)" + none + asked + "(2)" + none
-            + "\nderive(1, 0, 1, 1) = done" + asked + "(0) = " + (isValue ? 19 : 156));
-        edges.add(promise, s, "an operand of an operand has no value", received(5, 7, 0)
-            + "derive(0, 0, 0, 11) = done\nderive(1, 0, 0, 100) = done\nderive(2, 0, 101, 1) = done"
-            + asked + "(2)" + none + "\nderive(0, 0, 0, 0) = done" + asked + "(2) = " + (isValue ? 22 : 156));
-        String points = "addPoint(8, 1, 1, false) = 0\naddPoint(8, 1, 4, false) = 1\n"
-            + "derive(0, 0, 0, 1) = done\nderive(1, 0, 1, 0) = done\nderive(2, 0, 0, 0) = done\nsend(40) = 320\n";
-        edges.add(promise, s, "an operand is a point without a sample", points + "receive(191) = 0"
-            + asked + "(2)" + none + "\nreceive(1) = 1" + asked + "(2) = " + (isValue ? 0 : 144)
-            + "\nreceive(127) = 1" + asked + "(0)" + none + asked + "(1)" + none
-            + "\nreceive(1) = 1" + asked + "(0) = " + (isValue ? 0 : 280) + asked + "(1) = " + (isValue ? 0 : 280));
+    private static void asked(Edges edges) {
+        both(edges, "`derived`: 0 to 7", "the least and the greatest", received(5, 7, 0) + """
+            derive(0, 0, 0, 1) = done
+            derive(7, 0, 0, 0) = done
+            asked(0) = 12 at 156
+            asked(7) = 10 at 144
+            """);
+        both(edges, "Throws `IllegalArgumentException` if derived is out of range", "too small and too large",
+            received(5, 7, 0) + """
+            derive(0, 0, 0, 1) = done
+            asked(-1) = throws.IllegalArgumentException
+            asked(8) = throws.IllegalArgumentException
+            asked(100) = throws.IllegalArgumentException
+            asked(107) = throws.IllegalArgumentException
+            asked(MIN) = throws.IllegalArgumentException
+            asked(MAX) = throws.IllegalArgumentException
+            asked(0) = 12 at 156
+            """);
+        both(edges, "If several exceptions apply, the one that is documented first is thrown.",
+            "it is out of range and not set", """
+            asked(-1) = throws.IllegalArgumentException
+            asked(8) = throws.IllegalArgumentException
+            asked(0) = throws.NoSuchElementException
+            """);
+        both(edges, "Each has an operation and two operands, or is not set.", "it is set then",
+            received(5, 7, 0) + """
+            asked(1) = throws.NoSuchElementException
+            derive(1, 0, 0, 1) = done
+            asked(1) = 12 at 156
+            """);
+        String later = """
+            derive(0, 0, 0, 1) = done
+            asked(0) = 12 at 156
+            put(0, 9) = 5
+            send(8) = 64
+            asked(0) = 12 at 156
+            receive(64) = 1
+            asked(0) = 16 at 220
+            """;
+        value(edges, "Returns the value of a derived point.", "a frame is received anew", received(5, 7, 0) + later);
+        time(edges, "Returns the time of a derived point.", "a frame is received anew", received(5, 7, 0) + later);
     }
 
-    private static String refused(String call, String... numbers) {
-        StringBuilder rows = new StringBuilder();
-        for (String number : numbers) {
-            rows.append("\n").append(call).append("(").append(number).append(") = throws.IllegalArgumentException");
-        }
-        return rows.toString();
+    private static void nothingThere(Edges edges) {
+        String s = "Throws `NoSuchElementException` if it is not set, or an operand has no value";
+        both(edges, s, "it is not set", received(5, 7, 0) + """
+            derive(0, 0, 0, 1) = done
+            asked(1) = throws.NoSuchElementException
+            asked(7) = throws.NoSuchElementException
+            asked(0) = 12 at 156
+            """);
+        both(edges, s, "an operand is a point that does not exist", received(5, 7, 0) + """
+            derive(0, 0, 0, 3) = done
+            derive(1, 0, 11, 0) = done
+            asked(0) = throws.NoSuchElementException
+            asked(1) = throws.NoSuchElementException
+            """);
+        both(edges, s, "an operand is a derived point that is not set", received(5, 7, 0) + """
+            derive(0, 0, 0, 101) = done
+            derive(2, 0, 101, 0) = done
+            asked(0) = throws.NoSuchElementException
+            asked(2) = throws.NoSuchElementException
+            derive(1, 0, 1, 1) = done
+            asked(0) = 19 at 156
+            asked(2) = 19 at 156
+            """);
+        both(edges, s, "an operand of an operand has no value", received(5, 7, 0) + """
+            derive(0, 0, 0, 11) = done
+            derive(1, 0, 0, 100) = done
+            derive(2, 0, 101, 1) = done
+            asked(2) = throws.NoSuchElementException
+            derive(0, 0, 0, 0) = done
+            asked(2) = 22 at 156
+            """);
+        both(edges, s, "an operand is a point without a sample", """
+            addPoint(8, 1, 1, false) = 0
+            addPoint(8, 1, 4, false) = 1
+            derive(0, 0, 0, 1) = done
+            derive(1, 0, 1, 0) = done
+            derive(2, 0, 0, 0) = done
+            send(40) = 320
+            receive(191) = 0
+            asked(2) = throws.NoSuchElementException
+            receive(1) = 1
+            asked(2) = 0 at 144
+            receive(127) = 1
+            asked(0) = throws.NoSuchElementException
+            asked(1) = throws.NoSuchElementException
+            receive(1) = 1
+            asked(0) = 0 at 280
+            asked(1) = 0 at 280
+            """);
+    }
+
+    /** A row "asked(0) = 12 at 156" asks for the value in one case and for the time in another. */
+    private static void both(Edges edges, String sentence, String title, String script) {
+        value(edges, sentence, title, script);
+        time(edges, sentence, title, script);
+    }
+
+    private static void value(Edges edges, String sentence, String title, String script) {
+        edges.add(25, sentence, title, script.replaceAll(" at \\d+", "").replace("asked(", "derivedValue("));
+    }
+
+    private static void time(Edges edges, String sentence, String title, String script) {
+        edges.add(26, sentence, title, script.replaceAll("-?\\d+ at ", "").replace("asked(", "derivedTime("));
     }
 
     private static void times(Edges edges) {

@@ -194,7 +194,8 @@ final class EdgesOfPoints {
             addPoint(13, 4, 0, true) = throws.IllegalArgumentException
             points() = 0
             """);
-        String s = "Throws `IllegalStateException` if there are 12 points, there is no place for it, or a word was sent";
+        String s = "Throws `IllegalStateException` if there are 12 points, there is no place for it,"
+            + " or a word was sent";
         edges.add(2, s, "there are 12 points", """
             12 times addPoint(1, 0, 1, false)
             addPoint(1, 0, 1, false) = throws.IllegalStateException

@@ -169,7 +169,8 @@ final class EdgesOfTheReceiver {
     }
 
     private static void check(Edges edges) {
-        String s = "The next 8 bits begin the next frame; when they have been taken, they are compared with the sync word.";
+        String s = "The next 8 bits begin the next frame; when they have been taken, they are compared with the sync"
+            + " word.";
         edges.add(13, s, "seven of them, and the eighth", """
             send(16) = 128
             flip(64) = 0
@@ -285,7 +286,7 @@ final class EdgesOfTheReceiver {
             receive(1) = 0
             state() = 0
             """);
-        edges.add(13, s, "none at first: a new lock after one that ended with two misses", """
+        edges.add(13, s, "none at first: a new lock after one that ended with two misses, with one miss", """
             2 times send(64)
             write(192, 00000000)
             write(256, 00000000)
@@ -298,6 +299,19 @@ final class EdgesOfTheReceiver {
             state() = 2
             receive(504) = 8
             state() = 2
+            """);
+        edges.add(13, s, "none at first: a new lock after one that ended with two misses, with two misses", """
+            2 times send(64)
+            write(192, 00000000)
+            write(256, 00000000)
+            write(512, 00000000)
+            write(576, 00000000)
+            receive(264) = 2
+            state() = 0
+            receive(319) = 2
+            state() = 2
+            receive(1) = 0
+            state() = 0
             """);
     }
 

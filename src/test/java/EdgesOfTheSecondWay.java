@@ -162,6 +162,13 @@ final class EdgesOfTheSecondWay {
             receive(8) = 0
             bestOffset() = 0
             """);
+        edges.add(28, "Returns the offset, 0 to 63.", "the least but one", """
+            send(16) = 128
+            cut(0, 63) = 65
+            receive(65) = 0
+            matches(1) = 1
+            bestOffset() = 1
+            """);
         edges.add(28, "Returns the offset, 0 to 63.", "the greatest", """
             send(16) = 128
             cut(0, 1) = 127
