@@ -6,15 +6,36 @@ import java.util.Arrays;
 import java.util.Set;
 import java.util.TreeSet;
 
-/** The class shows the members of the document, and no others. */
+/** The class shows the members of the document, with the exceptions that it names, and no others. */
 public final class FaceTest {
     private static final String[] FACE = {
-        "int addPoint(int,int,int,boolean)", "int points()", "int place(int)", "int spare()",
-        "int put(int,int)", "int send(int)", "int sent()", "int onLine()", "int bit(int)",
-        "int flip(int)", "int cut(int,int)", "int receive(int)", "int state()", "int taken()",
-        "int frames()", "int lost()", "int repeats()", "int number()", "int value(int)",
-        "int time(int)", "int samples(int)", "int missing(int)", "void derive(int,int,int,int)",
-        "int derivedValue(int)", "int derivedTime(int)", "int matches(int)", "int bestOffset()",
+        "int addPoint(int,int,int,boolean) throws IllegalArgumentException,IllegalStateException",
+        "int points()",
+        "int place(int) throws IndexOutOfBoundsException",
+        "int spare()",
+        "int put(int,int) throws IndexOutOfBoundsException,IllegalArgumentException",
+        "int send(int) throws IllegalArgumentException,IllegalStateException",
+        "int sent()",
+        "int onLine()",
+        "int bit(int) throws IndexOutOfBoundsException",
+        "int flip(int) throws IndexOutOfBoundsException",
+        "int cut(int,int) throws IllegalArgumentException,IndexOutOfBoundsException",
+        "int receive(int) throws IllegalArgumentException",
+        "int state()",
+        "int taken()",
+        "int frames()",
+        "int lost()",
+        "int repeats()",
+        "int number() throws NoSuchElementException",
+        "int value(int) throws IndexOutOfBoundsException,NoSuchElementException",
+        "int time(int) throws IndexOutOfBoundsException,NoSuchElementException",
+        "int samples(int) throws IndexOutOfBoundsException",
+        "int missing(int) throws IndexOutOfBoundsException",
+        "void derive(int,int,int,int) throws IllegalArgumentException,IllegalStateException",
+        "int derivedValue(int) throws IllegalArgumentException,NoSuchElementException",
+        "int derivedTime(int) throws IllegalArgumentException,NoSuchElementException",
+        "int matches(int) throws IllegalArgumentException",
+        "int bestOffset()",
     };
 
     public static void main(String[] args) {
@@ -42,11 +63,16 @@ public final class FaceTest {
     }
 
     private static String signature(Method m) {
-        StringBuilder text = new StringBuilder(m.getReturnType().getName() + " " + m.getName() + "(");
-        for (Class<?> c : m.getParameterTypes()) {
-            text.append(text.charAt(text.length() - 1) == '(' ? "" : ",").append(c.getName());
+        String text = m.getReturnType().getName() + " " + m.getName() + "(" + listed(m.getParameterTypes()) + ")";
+        return m.getExceptionTypes().length == 0 ? text : text + " throws " + listed(m.getExceptionTypes());
+    }
+
+    private static String listed(Class<?>[] types) {
+        StringBuilder text = new StringBuilder();
+        for (Class<?> c : types) {
+            text.append(text.length() == 0 ? "" : ",").append(c.getSimpleName());
         }
-        return text.append(')').toString();
+        return text.toString();
     }
 
     private static void checkConstructors(Class<?> type) {
